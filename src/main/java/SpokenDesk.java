@@ -42,6 +42,7 @@ public final class SpokenDesk {
     private static final int FAR = 1000000;
 
     private final Costs costs;
+    private final Measure measure;
     private final Rows pushed;
     private final Tape tape;
     private final Lexicon rules;
@@ -58,6 +59,7 @@ public final class SpokenDesk {
     /** Promise 1. */
     public SpokenDesk() {
         costs = new Costs();
+        measure = new Measure(costs);
         pushed = new Rows(1, HAND_SOUNDS);
         tape = new Tape();
         rules = new Lexicon(MOST_RULES, RULE_LETTERS, RULE_SOUNDS);
@@ -189,12 +191,13 @@ public final class SpokenDesk {
     public int distance(int k, int other) throws IndexOutOfBoundsException {
         needCommand(k);
         needCommand(other);
-        return costs.between(spoken.commands(), k, spoken.commands(), other, FAR);
+        measure.lay(spoken.commands(), k);
+        return measure.reach(spoken.commands(), other, FAR);
     }
 
     /** Promise 16. */
     public int apart() {
-        nearest.find(spoken, costs);
+        nearest.find(spoken, measure);
         return nearest.least();
     }
 
@@ -203,7 +206,7 @@ public final class SpokenDesk {
         if (which != 0 && which != 1) {
             throw new IllegalArgumentException("neither the lower nor the other one");
         }
-        nearest.find(spoken, costs);
+        nearest.find(spoken, measure);
         return which == 0 ? nearest.lower() : nearest.upper();
     }
 
@@ -212,7 +215,7 @@ public final class SpokenDesk {
         if (spoken.size() == 0) {
             return NONE;
         }
-        hearing.listen(spoken, pushed, costs);
+        hearing.listen(spoken, pushed, measure);
         pushed.clear(0);
         return hearing.told(0);
     }
@@ -252,14 +255,14 @@ public final class SpokenDesk {
 
     /** Promise 23. */
     public int best() {
-        slots.choose(costs);
+        slots.choose(measure);
         return slots.worth();
     }
 
     /** Promise 24. */
     public int chosen(int slot) throws IndexOutOfBoundsException {
         needSlot(slot);
-        slots.choose(costs);
+        slots.choose(measure);
         return slots.choiceOf(slot);
     }
 
@@ -559,15 +562,12 @@ public final class SpokenDesk {
         }
     }
 
-    /** COSTS, NEAR and DISTANCE. SOUND s stands at s + 1, so that NOTHING stands at 0. */
+    /** COSTS and NEAR. SOUND s stands at s + 1, so that NOTHING stands at 0. */
     private static final class Costs {
         private static final int SIZE = SOUNDS + 1;
 
         private final int[] costs = new int[SIZE * SIZE];
         private final int[] nears = new int[SIZE * SIZE];
-        private final int[] across = new int[COMMAND_SOUNDS];
-        private final int[] lineA = new int[COMMAND_SOUNDS + 1];
-        private final int[] lineB = new int[COMMAND_SOUNDS + 1];
         private int edition;
         private boolean stale;
 
@@ -579,7 +579,6 @@ public final class SpokenDesk {
             stale = true;
         }
 
-        /** Another number whenever a COST was changed: what was found by the COSTS ahead is old then. */
         int edition() {
             return edition;
         }
@@ -598,7 +597,7 @@ public final class SpokenDesk {
             return nears[(x + 1) * SIZE + y + 1];
         }
 
-        private void refresh() {
+        void refresh() {
             if (!stale) {
                 return;
             }
@@ -614,48 +613,104 @@ public final class SpokenDesk {
         private void goBy(int x, int by) {
             int toBy = nears[x * SIZE + by];
             for (int y = 0; y < SIZE; y++) {
-                nears[x * SIZE + y] = Math.min(nears[x * SIZE + y], toBy + nears[by * SIZE + y]);
+                int sum = toBy + nears[by * SIZE + y];
+                if (sum < nears[x * SIZE + y]) {
+                    nears[x * SIZE + y] = sum;
+                }
             }
         }
 
-        /** DISTANCE; or the limit, where it is not below the limit. */
-        int between(Rows one, int a, Rows two, int b, int limit) {
-            refresh();
-            int many = Math.min(one.length(a), COMMAND_SOUNDS);
-            int width = Math.min(two.length(b), COMMAND_SOUNDS);
-            int[] above = lineA;
-            int[] line = lineB;
-            above[0] = 0;
-            for (int j = 0; j < width; j++) {
-                across[j] = two.at(b, j) + 1;
-                above[j + 1] = above[j] + nears[across[j]];
+        /** NEAR of all, the same array for good: it is as now behind refresh(). */
+        int[] table() {
+            return nears;
+        }
+    }
+
+    /**
+     * DISTANCE of a row that is laid down to other ones. Column c of a line tells the least sum of the first c
+     * SOUNDS of the row that is laid and of as many of the other one's as there were lines.
+     */
+    private static final class Measure {
+        private final int[] across = new int[COMMAND_SOUNDS + 1];
+        private final int[] firstLine = new int[COMMAND_SOUNDS + 1];
+        private final int[] lineA = new int[COMMAND_SOUNDS + 1];
+        private final int[] lineB = new int[COMMAND_SOUNDS + 1];
+        private final Costs costs;
+        private final int[] nears;
+        private int width;
+        private int low;
+        private int high;
+
+        Measure(Costs costs) {
+            this.costs = costs;
+            this.nears = costs.table();
+        }
+
+        /** Another number whenever a COST was changed: what was measured ahead is old then. */
+        int edition() {
+            return costs.edition();
+        }
+
+        /** Lays a row down; it is to be laid anew behind a change of COSTS. */
+        void lay(Rows rows, int row) {
+            costs.refresh();
+            width = Math.min(rows.length(row), COMMAND_SOUNDS);
+            for (int c = 1; c <= width; c++) {
+                across[c] = rows.at(row, c - 1) + 1;
+                firstLine[c] = firstLine[c - 1] + nears[across[c]];
             }
+        }
+
+        /** DISTANCE of the row that is laid to another one; or the limit, if it is not below the limit. */
+        int reach(Rows rows, int row, int limit) {
+            int many = rows.length(row);
+            int[] above = firstLine;
+            int[] line = lineA;
+            int[] next = lineB;
+            low = 0;
+            high = width;
             for (int i = 0; i < many; i++) {
-                // No later line has less than the least of this one: behind the limit it is told already.
-                if (nextLine(above, line, one.at(a, i) + 1, width) >= limit) {
+                fill(line, above, rows.at(row, i) + 1, limit);
+                if (high == NONE) {
                     return limit;
                 }
-                int[] old = above;
                 above = line;
-                line = old;
+                line = next;
+                next = above;
             }
-            return Math.min(above[width], limit);
+            return high == width ? Math.min(above[width], limit) : limit;
         }
 
-        /** Lays one more SOUND beside what stands across: the least of the new line. */
-        private int nextLine(int[] above, int[] line, int sound, int width) {
-            int base = sound * SIZE;
+        /**
+         * Fills the line below another one, for one more SOUND. Columns outside low to high have reached the
+         * limit, and sums only grow on the way: they are left out. High is NONE if no column is below the limit.
+         */
+        private void fill(int[] line, int[] above, int sound, int limit) {
+            int base = sound * Costs.SIZE;
             int alone = nears[base];
-            int least = above[0] + alone;
-            line[0] = least;
-            for (int j = 0; j < width; j++) {
-                int sum = above[j] + nears[base + across[j]];
-                sum = Math.min(sum, above[j + 1] + alone);
-                sum = Math.min(sum, line[j] + nears[across[j]]);
-                line[j + 1] = sum;
-                least = Math.min(least, sum);
+            int corner = FAR;
+            int left = FAR;
+            int from = NONE;
+            int to = NONE;
+            for (int c = low; c <= width; c++) {
+                int up = c <= high ? above[c] : FAR;
+                int other = across[c];
+                int beside = corner + nears[base + other];
+                int sum = up + alone < beside ? up + alone : beside;
+                left += nears[other];
+                sum = left < sum ? left : sum;
+                line[c] = sum;
+                if (sum < limit) {
+                    from = from == NONE ? c : from;
+                    to = c;
+                } else if (c > high) {
+                    break;
+                }
+                corner = up;
+                left = sum;
             }
-            return least;
+            low = from;
+            high = to;
         }
     }
 
@@ -927,27 +982,28 @@ public final class SpokenDesk {
             return upper;
         }
 
-        void find(Grammar grammar, Costs costs) {
-            if (known && edition == costs.edition()) {
+        void find(Grammar grammar, Measure measure) {
+            if (known && edition == measure.edition()) {
                 return;
             }
             known = true;
-            edition = costs.edition();
+            edition = measure.edition();
             least = FAR;
             lower = NONE;
             upper = NONE;
             for (int k = 0; k < grammar.size() && least > 0; k++) {
-                compare(grammar, costs, k);
+                compare(grammar, measure, k);
             }
             if (lower == NONE) {
                 least = NONE;
             }
         }
 
-        private void compare(Grammar grammar, Costs costs, int k) {
+        private void compare(Grammar grammar, Measure measure, int k) {
             Rows commands = grammar.commands();
+            measure.lay(commands, k);
             for (int other = k + 1; other < grammar.size() && least > 0; other++) {
-                int gap = costs.between(commands, k, commands, other, least);
+                int gap = measure.reach(commands, other, least);
                 if (gap < least) {
                     least = gap;
                     lower = k;
@@ -974,10 +1030,12 @@ public final class SpokenDesk {
             againCount = 0;
         }
 
-        void listen(Grammar grammar, Rows row, Costs costs) {
+        void listen(Grammar grammar, Rows row, Measure measure) {
             forget();
+            measure.lay(row, 0);
             for (int k = 0; k < grammar.size(); k++) {
-                weigh(k, costs.between(row, 0, grammar.commands(), k, FAR));
+                // Behind SECOND's it is no matter how far.
+                weigh(k, measure.reach(grammar.commands(), k, second == NONE ? FAR : secondGap));
             }
             if (second != NONE) {
                 askAgain(grammar);
@@ -1084,16 +1142,16 @@ public final class SpokenDesk {
             return slot >= 0 && slot < size ? choice[slot] : NONE;
         }
 
-        void choose(Costs costs) {
-            if (known && edition == costs.edition()) {
+        void choose(Measure measure) {
+            if (known && edition == measure.edition()) {
                 return;
             }
             known = true;
-            edition = costs.edition();
+            edition = measure.edition();
             worth = NONE;
             Arrays.fill(choice, NONE);
             if (isReady()) {
-                measure(costs);
+                measureAll(measure);
                 tryFrom(0, FAR);
             }
         }
@@ -1107,19 +1165,20 @@ public final class SpokenDesk {
             return size >= 2;
         }
 
-        private void measure(Costs costs) {
+        private void measureAll(Measure measure) {
             for (int slot = 1; slot < size; slot++) {
                 for (int word = 0; word < wordCounts[slot]; word++) {
-                    measureWord(slot, slot * SLOT_WORDS + word, costs);
+                    measureWord(slot, slot * SLOT_WORDS + word, measure);
                 }
             }
         }
 
-        private void measureWord(int slot, int one, Costs costs) {
+        private void measureWord(int slot, int one, Measure measure) {
+            measure.lay(words, one);
             for (int before = 0; before < slot; before++) {
                 for (int word = 0; word < wordCounts[before]; word++) {
                     int other = before * SLOT_WORDS + word;
-                    gaps[one * MOST + other] = costs.between(words, one, words, other, FAR);
+                    gaps[one * MOST + other] = measure.reach(words, other, FAR);
                 }
             }
         }
