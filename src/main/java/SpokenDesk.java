@@ -633,8 +633,7 @@ public final class SpokenDesk {
     private static final class Measure {
         private final int[] across = new int[COMMAND_SOUNDS + 1];
         private final int[] firstLine = new int[COMMAND_SOUNDS + 1];
-        private final int[] lineA = new int[COMMAND_SOUNDS + 1];
-        private final int[] lineB = new int[COMMAND_SOUNDS + 1];
+        private final int[] line = new int[COMMAND_SOUNDS + 1];
         private final Costs costs;
         private final int[] nears;
         private int width;
@@ -665,27 +664,24 @@ public final class SpokenDesk {
         int reach(Rows rows, int row, int limit) {
             int many = rows.length(row);
             int[] above = firstLine;
-            int[] line = lineA;
-            int[] next = lineB;
             low = 0;
             high = width;
             for (int i = 0; i < many; i++) {
-                fill(line, above, rows.at(row, i) + 1, limit);
+                fillLine(above, rows.at(row, i) + 1, limit);
                 if (high == NONE) {
                     return limit;
                 }
                 above = line;
-                line = next;
-                next = above;
             }
             return high == width ? Math.min(above[width], limit) : limit;
         }
 
         /**
-         * Fills the line below another one, for one more SOUND. Columns outside low to high have reached the
-         * limit, and sums only grow on the way: they are left out. High is NONE if no column is below the limit.
+         * Fills the line for one more SOUND; it may be the one above itself, as its corner is kept. Columns outside
+         * low to high have reached the limit, and sums only grow on the way: they are left out. High is NONE
+         * then if no column is below the limit.
          */
-        private void fill(int[] line, int[] above, int sound, int limit) {
+        private void fillLine(int[] above, int sound, int limit) {
             int base = sound * Costs.SIZE;
             int alone = nears[base];
             int corner = FAR;
