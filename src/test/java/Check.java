@@ -1,22 +1,32 @@
+import java.util.Arrays;
+
 /** Counts what is not as due, and feeds a desk with texts instead of numbers. */
 final class Check {
     private int wrong = 0;
     private int told = 0;
+    private String sentence = "";
+
+    /** What follows is a test of this sentence of the document: it is told with all that is not as due. */
+    void sentence(String words) {
+        sentence = words + " -- ";
+    }
+
+    private void tellWrong(String words) {
+        wrong++;
+        System.out.println(sentence + words);
+    }
 
     void same(String what, long got, long due) {
         told++;
         if (got != due) {
-            wrong++;
-            System.out.println(what + ": " + got + ", due is " + due);
+            tellWrong(what + ": " + got + ", due is " + due);
         }
     }
 
     void row(String what, int[] got, int... due) {
         told++;
-        if (!java.util.Arrays.equals(got, due)) {
-            wrong++;
-            System.out.println(what + ": " + java.util.Arrays.toString(got) + ", due is "
-                    + java.util.Arrays.toString(due));
+        if (!Arrays.equals(got, due)) {
+            tellWrong(what + ": " + Arrays.toString(got) + ", due is " + Arrays.toString(due));
         }
     }
 
@@ -29,15 +39,12 @@ final class Check {
         try {
             call.run();
         } catch (RuntimeException thrown) {
-            if (thrown.getClass() == kind) {
-                return;
+            if (thrown.getClass() != kind) {
+                tellWrong(what + ": throws " + thrown + ", due is " + kind.getName());
             }
-            wrong++;
-            System.out.println(what + ": throws " + thrown + ", due is " + kind.getName());
             return;
         }
-        wrong++;
-        System.out.println(what + ": throws nothing, due is " + kind.getName());
+        tellWrong(what + ": throws nothing, due is " + kind.getName());
     }
 
     void illegal(String what, Runnable call) {
