@@ -300,7 +300,8 @@ public final class AnswerEdgesTest {
     }
 
     private static void heardOfTheLatest(Check check) {
-        check.sentence("Promise 19: Of the latest hear() that told one, as it was: 0 FIRST, 1 its DISTANCE, 2 SECOND, 3 its DISTANCE, 4 GAP");
+        check.sentence("Promise 19: Of the latest hear() that told one, as it was: 0 FIRST, 1 its DISTANCE, "
+                + "2 SECOND, 3 its DISTANCE, 4 GAP");
         SpokenDesk desk = Check.lettered();
         Check.grammar(desk, "(a|b|cc)");
         desk.push(1);
@@ -319,7 +320,8 @@ public final class AnswerEdgesTest {
     }
 
     private static void heardWithoutSecond(Check check) {
-        check.sentence("Promise 19: (2 to 4: NONE without SECOND), 5 how many POINTS are to be asked again (0 without).");
+        check.sentence("Promise 19: (2 to 4: NONE without SECOND), 5 how many POINTS are to be asked again "
+                + "(0 without).");
         SpokenDesk desk = Check.lettered();
         Check.grammar(desk, "a(b)");
         desk.push(0);
@@ -604,7 +606,8 @@ public final class AnswerEdgesTest {
     }
 
     private static void countOfEach(Check check) {
-        check.sentence("Promise 25: 0 RULES, 1 SPELLINGS in the BOOK, 2 COMMANDS, 3 POINTS of the GRAMMAR, 4 SLOTS, 5 SOUNDS in the HAND, 6 bytes of the TAPE");
+        check.sentence("Promise 25: 0 RULES, 1 SPELLINGS in the BOOK, 2 COMMANDS, 3 POINTS of the GRAMMAR, 4 "
+                + "SLOTS, 5 SOUNDS in the HAND, 6 bytes of the TAPE");
         SpokenDesk desk = Check.lettered();
         Check.book(desk, "x", 1);
         Check.book(desk, "y", 1);

@@ -3,6 +3,7 @@ public final class ChoiceEdgesTest {
     public static void main(String[] args) {
         Check check = new Check();
         leastOfTwo(check);
+        leastBehindOne(check);
         pairByTheLower(check);
         pairByTheOther(check);
         firstOfTheNearest(check);
@@ -33,6 +34,20 @@ public final class ChoiceEdgesTest {
         check.same("of 120 unlike ones", desk.apart(), 100);
         desk.cost(12, 13, 99);
         check.same("of 120 unlike ones, some nearer", desk.apart(), 99);
+    }
+
+    private static void leastBehindOne(Check check) {
+        check.sentence("APART: of two COMMANDS the least DISTANCE (0 behind a DISTANCE of 1)");
+        SpokenDesk desk = Check.lettered();
+        desk.cost(0, 1, 1);
+        Check.grammar(desk, "(a|b|a)");
+        check.same("of the same lower one", desk.apart(), 0);
+        check.same("of the same lower one", desk.pair(1), 2);
+        Check.grammar(desk, "(a|b|c|c)");
+        check.same("of another lower one", desk.apart(), 0);
+        check.same("of another lower one", desk.pair(0), 2);
+        Check.grammar(desk, "(b|a|c)");
+        check.same("1 is the least", desk.apart(), 1);
     }
 
     private static void pairByTheLower(Check check) {

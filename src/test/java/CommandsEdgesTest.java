@@ -149,7 +149,8 @@ public final class CommandsEdgesTest {
     }
 
     private static void pickOfNone(Check check) {
-        check.sentence("A COMMAND picks .. one of its S (its number, from 0 on), or of a [ none (its PICK is how many S there are)");
+        check.sentence("A COMMAND picks .. one of its S (its number, from 0 on), or of a [ none (its PICK is "
+                + "how many S there are)");
         SpokenDesk desk = Check.lettered();
         good(check, desk, "[a]", 2);
         check.same("the only one", desk.pick(0, 0), 0);
@@ -278,7 +279,8 @@ public final class CommandsEdgesTest {
     private static void textEndsTooEarly(Check check) {
         check.sentence("(at the length, if the text ends too early)");
         SpokenDesk desk = Check.lettered();
-        String[] texts = {"", " ", "     ", "(", "[", "( ", "(a", "[a", "(a|", "(a| ", "(a|b  ", "a(b[c]", "((a)", "a ("};
+        String[] texts = {"", " ", "     ", "(", "[", "( ", "(a", "[a", "(a|", "(a| ", "(a|b  ", "a(b[c]",
+            "((a)", "a ("};
         for (String text : texts) {
             faulty(check, desk, text, 1, text.length());
         }

@@ -65,6 +65,10 @@ public final class ModelTest {
         if (below(2) == 0) {
             fillSlots();
         }
+        int full = below(10);
+        if (full < 2) {
+            fillLexicon(full);
+        }
         while (calls < CALLS && !wrong) {
             step();
         }
@@ -79,6 +83,15 @@ public final class ModelTest {
                 call(20, slot, fed(some(1 + below(7))));
             }
         }
+    }
+
+    /** Up to and beyond the 60 rules, or the 40 of the book; some are told again. */
+    private void fillLexicon(int which) {
+        for (int k = 0; k < 70; k++) {
+            pushSome(which + below(2));
+            call(6 + which, fed(some(2 + below(3))));
+        }
+        call(23, which);
     }
 
     private void step() {
@@ -197,7 +210,7 @@ public final class ModelTest {
     }
 
     private int fed(String text) {
-        if (below(4) != 0 && desk.count(6) > 0) {
+        if (below(4) != 0 && model.count(6) > 0) {
             call(8, 0);
         }
         for (int from = 0; from < Math.max(1, text.length()); from += 20) {

@@ -7,6 +7,7 @@ public final class PromiseEdgesTest {
         Check check = new Check();
         newObject(check);
         newObjectBesideAnother(check);
+        objectFor512Calls(check);
         costWas(check);
         costOfNoSound(check);
         costOfTheSame(check);
@@ -84,6 +85,36 @@ public final class PromiseEdgesTest {
         check.same("near", desk.near(0, 1), 100);
         check.same("the used one has its own", used.near(0, 1), 1);
         check.same("the used one has its own", used.count(0), 16);
+    }
+
+    private static void objectFor512Calls(Check check) {
+        check.sentence("An object is used for at most 512 calls after it has been made");
+        SpokenDesk desk = new SpokenDesk();
+        for (int k = 1; k <= 510; k++) {
+            int was = k <= 17 ? 100 : 1 + (k - 17) % 99;
+            check.same("call " + k, desk.cost(k % 17 - 1, (k + 5) % 17 - 1, 1 + k % 99), was);
+        }
+        check.same("call 511", desk.near(0, 5), near512());
+        check.same("call 512", desk.push(15), 1);
+    }
+
+    /** The least sum of the costs that 510 calls told last, by going round once and again. */
+    private static int near512() {
+        int[][] sums = new int[17][17];
+        for (int[] row : sums) {
+            java.util.Arrays.fill(row, 100);
+        }
+        for (int k = 1; k <= 510; k++) {
+            sums[k % 17][(k + 5) % 17] = 1 + k % 99;
+            sums[(k + 5) % 17][k % 17] = 1 + k % 99;
+        }
+        for (int round = 0; round < 17 * 17 * 17 * 17; round++) {
+            int x = round % 17;
+            int y = round / 17 % 17;
+            int by = round / 289 % 17;
+            sums[x][y] = Math.min(sums[x][y], sums[x][by] + sums[by][y]);
+        }
+        return sums[1][6];
     }
 
     private static void costWas(Check check) {
@@ -273,7 +304,8 @@ public final class PromiseEdgesTest {
     }
 
     private static void ruleEmptiesBoth(Check check) {
-        check.sentence("Promise 8: The first n bytes of the TAPE (empty then) and the HAND (empty then) are a RULE: how many there are");
+        check.sentence("Promise 8: The first n bytes of the TAPE (empty then) and the HAND (empty then) are "
+                + "a RULE: how many there are");
         SpokenDesk desk = new SpokenDesk();
         desk.feed(0x61626364, 0, 0, 0, 0);
         desk.feed(0, 0, 0, 0, 0);
@@ -441,7 +473,8 @@ public final class PromiseEdgesTest {
     }
 
     private static void readIntoTheHand(Check check) {
-        check.sentence("Promise 10: The first n bytes (empty then) are READ into the HAND (in the place of what is there): how many SOUNDS");
+        check.sentence("Promise 10: The first n bytes (empty then) are READ into the HAND (in the place of "
+                + "what is there): how many SOUNDS");
         SpokenDesk desk = Check.lettered();
         Check.pushAll(desk, new int[40]);
         desk.feed(0x62636465, 0, 0, 0, 0);

@@ -67,7 +67,8 @@ public final class TermsEdgesTest {
     }
 
     private static void nearThroughAllOthers(Check check) {
-        check.sentence("NEAR of two of them: the least sum of COSTS of a row from one to the other, through any others");
+        check.sentence("NEAR of two of them: the least sum of COSTS of a row from one to the other, through "
+                + "any others");
         SpokenDesk desk = new SpokenDesk();
         int[] row = {15, 3, -1, 8, 0, 11, 5, 14, 1, 9, 2, 13, 4, 12, 6, 10, 7};
         for (int i = 1; i < row.length; i++) {
@@ -89,7 +90,8 @@ public final class TermsEdgesTest {
     }
 
     private static void distanceOfEmptyRows(Check check) {
-        check.sentence("DISTANCE of two rows of SOUNDS: .. with NOTHING put in wherever one likes (never NOTHING beside NOTHING)");
+        check.sentence("DISTANCE of two rows of SOUNDS: .. with NOTHING put in wherever one likes (never "
+                + "NOTHING beside NOTHING)");
         SpokenDesk desk = Check.lettered();
         Check.grammar(desk, "[a] [b]");
         desk.cost(-1, 0, 7);
@@ -327,7 +329,8 @@ public final class TermsEdgesTest {
     }
 
     private static void longestRule(Check check) {
-        check.sentence("from the left on, of the RULES whose letters stand there the longest one's row, and on behind these letters");
+        check.sentence("from the left on, of the RULES whose letters stand there the longest one's row, and "
+                + "on behind these letters");
         SpokenDesk desk = new SpokenDesk();
         Check.rule(desk, "abcd", 4);
         Check.rule(desk, "abc", 3);
