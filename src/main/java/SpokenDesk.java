@@ -52,8 +52,7 @@ public final class SpokenDesk {
     private final Nearest nearest;
     private final Hearing hearing;
     private final Slots slots;
-    private Grammar spoken;
-    private Grammar spare;
+    private final Grammar spoken;
     private int faultPlace;
 
     /** Promise 1. */
@@ -70,7 +69,6 @@ public final class SpokenDesk {
         hearing = new Hearing();
         slots = new Slots();
         spoken = new Grammar();
-        spare = new Grammar();
         faultPlace = NONE;
     }
 
@@ -153,15 +151,15 @@ public final class SpokenDesk {
     public int grammar(int n) throws IllegalArgumentException {
         needBytes(n);
         tape.clear();
-        int fault = parser.parse(tape.text(), n, spare);
+        int fault = parser.parse(tape.text(), n, spoken);
+        if (fault == NO_FAULT) {
+            fault = spoken.takeCommands();
+        }
         if (fault != NO_FAULT) {
             faultPlace = parser.reached();
             return fault + FAULT_BASE;
         }
         faultPlace = NONE;
-        Grammar before = spoken;
-        spoken = spare;
-        spare = before;
         nearest.forget();
         hearing.forget();
         return spoken.size();
@@ -711,8 +709,10 @@ public final class SpokenDesk {
     }
 
     /**
-     * A GRAMMAR as it was taken, and its COMMANDS. Of each SPELLING and POINT it is kept within which
-     * POINT's which S it stands: that alone tells which of them a row of PICKS comes by.
+     * The COMMANDS of the GRAMMAR, and the draft of the one that is being taken: what was added of it since
+     * begin(). The COMMANDS stay as they are until the draft is known to have no FAULT. Of each SPELLING and POINT
+     * of the draft it is kept within which POINT's which S it stands: that alone tells which of them a row of
+     * PICKS comes by.
      */
     private static final class Grammar {
         private final Rows words = new Rows(MOST_WORDS, READ_SOUNDS);
@@ -728,11 +728,12 @@ public final class SpokenDesk {
         private int wordCount;
         private int pointCount;
         private int size;
+        private int points;
 
-        void clear() {
+        /** An empty draft. */
+        void begin() {
             wordCount = 0;
             pointCount = 0;
-            size = 0;
         }
 
         int size() {
@@ -740,7 +741,7 @@ public final class SpokenDesk {
         }
 
         int points() {
-            return pointCount;
+            return points;
         }
 
         Rows commands() {
@@ -748,7 +749,7 @@ public final class SpokenDesk {
         }
 
         int picked(int k, int point) {
-            return k >= 0 && k < size && point >= 0 && point < pointCount ? picks[k * MOST_POINTS + point] : NONE;
+            return k >= 0 && k < size && point >= 0 && point < points ? picks[k * MOST_POINTS + point] : NONE;
         }
 
         private boolean hasPoint(int point) {
@@ -798,25 +799,38 @@ public final class SpokenDesk {
             }
         }
 
-        /** Makes the COMMANDS of what was added: the FAULT behind all, or none. */
-        int makeCommands() {
+        /** Takes the COMMANDS of the draft in the place of those ahead; or tells the FAULT behind all. */
+        int takeCommands() {
+            int fault = faultBehindAll();
+            if (fault == NO_FAULT) {
+                keepCommands();
+            }
+            return fault;
+        }
+
+        private int faultBehindAll() {
             boolean tooLong = false;
             boolean more = true;
-            int made = 0;
             settleFrom(0);
-            while (more && made < MOST_COMMANDS) {
-                System.arraycopy(now, 0, picks, made * MOST_POINTS, MOST_POINTS);
-                if (!joinWords(made)) {
-                    tooLong = true;
-                }
-                made++;
+            for (int seen = 0; seen < MOST_COMMANDS && more; seen++) {
+                tooLong = tooLong || soundsNow() > COMMAND_SOUNDS;
                 more = step();
             }
             if (more) {
                 return FAULT_COMMANDS;
             }
-            size = made;
             return tooLong ? FAULT_SOUNDS : NO_FAULT;
+        }
+
+        private void keepCommands() {
+            boolean more = true;
+            points = pointCount;
+            settleFrom(0);
+            for (size = 0; size < MOST_COMMANDS && more; size++) {
+                System.arraycopy(now, 0, picks, size * MOST_POINTS, MOST_POINTS);
+                joinWords(size);
+                more = step();
+            }
         }
 
         private boolean comesBy(int point, int part) {
@@ -842,16 +856,23 @@ public final class SpokenDesk {
             return false;
         }
 
-        private boolean joinWords(int command) {
+        private int soundsNow() {
             int many = 0;
-            commands.clear(command);
             for (int word = 0; word < wordCount; word++) {
                 if (comesBy(wordPoint[word], wordPart[word])) {
                     many += words.length(word);
+                }
+            }
+            return many;
+        }
+
+        private void joinWords(int command) {
+            commands.clear(command);
+            for (int word = 0; word < wordCount; word++) {
+                if (comesBy(wordPoint[word], wordPart[word])) {
                     commands.join(command, words, word);
                 }
             }
-            return many <= COMMAND_SOUNDS;
         }
     }
 
@@ -866,13 +887,13 @@ public final class SpokenDesk {
             this.reader = reader;
         }
 
-        /** Where the FAULT of the latest parse() is. */
+        /** Where the FAULT of the latest parse() is; without one, the text's length. */
         int reached() {
             return reached;
         }
 
         int parse(int[] text, int count, Grammar into) {
-            into.clear();
+            into.begin();
             open = NONE;
             empty = true;
             reached = 0;
@@ -885,7 +906,7 @@ public final class SpokenDesk {
                 }
                 reached = Math.max(behind, reached + 1);
             }
-            return empty || open != NONE ? FAULT_SIGN : into.makeCommands();
+            return empty || open != NONE ? FAULT_SIGN : NO_FAULT;
         }
 
         private static int behindLetters(int[] text, int from, int end) {

@@ -1,11 +1,22 @@
 import java.lang.management.ManagementFactory;
+import java.lang.reflect.Array;
+import java.lang.reflect.Field;
+import java.lang.reflect.Modifier;
+import java.util.Collections;
+import java.util.IdentityHashMap;
+import java.util.Set;
 
 /** All calls of a run live in one room: an object is small, and no call makes anything that is kept count of. */
 public final class RoomTest {
+    private static final int ROOM_OBJECTS = 600000;
+    private static final int ROOM_FIELDS = 7300000;
+    private static final int CALLS = 512;
+
     private static int sum = 0;
 
-    public static void main(String[] args) {
+    public static void main(String[] args) throws IllegalAccessException {
         Check check = new Check();
+        newObjects(check);
         com.sun.management.ThreadMXBean threads =
                 (com.sun.management.ThreadMXBean) ManagementFactory.getThreadMXBean();
         use(Check.lettered());
@@ -21,6 +32,37 @@ public final class RoomTest {
         long used = threads.getCurrentThreadAllocatedBytes() - start;
         check.yes("the calls made " + used + " bytes, 2000 at most", used <= 2000);
         check.end();
+    }
+
+    /** Even 512 new objects, each used or not, must find room: nothing is made behind the constructor. */
+    private static void newObjects(Check check) throws IllegalAccessException {
+        Set<Object> seen = Collections.newSetFromMap(new IdentityHashMap<>());
+        int fields = fieldsOf(new SpokenDesk(), seen);
+        int objects = seen.size();
+        check.yes("a new object is made of " + objects + " objects", objects * CALLS <= ROOM_OBJECTS);
+        check.yes("a new object has " + fields + " fields and elements", fields * CALLS <= ROOM_FIELDS);
+    }
+
+    private static int fieldsOf(Object object, Set<Object> seen) throws IllegalAccessException {
+        if (!seen.add(object)) {
+            return 0;
+        }
+        if (object.getClass().isArray()) {
+            return Array.getLength(object);
+        }
+        int count = 0;
+        for (Field field : object.getClass().getDeclaredFields()) {
+            if (Modifier.isStatic(field.getModifiers())) {
+                continue;
+            }
+            count++;
+            field.setAccessible(true);
+            Object held = field.get(object);
+            if (!field.getType().isPrimitive() && held != null) {
+                count += fieldsOf(held, seen);
+            }
+        }
+        return count;
     }
 
     private static void use(SpokenDesk desk) {
